@@ -44,7 +44,6 @@ public final class TypedTerms {
     private static final int BIND = 16;
     private static final int CHOOSE = 17;
     private static final int SPLIT = 18;
-    private static final int LEAF_KINDS = 4;
     private static final int ONE_KINDS = 4;
     private static final int TWO_KINDS = 9;
     private static final int THREE_KINDS = 2;
@@ -159,11 +158,11 @@ public final class TypedTerms {
         if (!isOne(kind, k)) {
             return BAD_ARG;
         }
-        return makeTerm(LEAF_KINDS + kind, k, 1);
+        return makeTerm(FUNCTION + kind, k, 1);
     }
 
     public int two(int kind, int k) {
-        int termsKind = FUNCTION + ONE_KINDS + kind;
+        int termsKind = APPLY + kind;
         if (kind < 0 || kind >= TWO_KINDS || (termsKind == BIND && !isName(k))) {
             return BAD_ARG;
         }
@@ -222,7 +221,7 @@ public final class TypedTerms {
     }
 
     private boolean isOne(int kind, int k) {
-        switch (LEAF_KINDS + kind) {
+        switch (FUNCTION + kind) {
             case FUNCTION:
                 return isName(k);
             case OWN:
@@ -349,26 +348,12 @@ public final class TypedTerms {
     }
 
     public boolean fits() {
-        int top = topTerm();
-        if (givenDepth == 0 || !infer(top)) {
-            return false;
-        }
         // An instance must leave the given type as it is, so there no variable may be replaced.
-        for (int k = 0; k < TYPE_VARIABLES; k++) {
-            shape[VARIABLE_NODE + k] = RIGID + k;
-        }
-        return unify(typeOf[top], givenStack[givenDepth - 1]) && hasNoCycle();
+        return agrees(true);
     }
 
     public boolean meets() {
-        int top = topTerm();
-        if (givenDepth == 0 || !infer(top)) {
-            return false;
-        }
-        for (int k = 0; k < TYPE_VARIABLES; k++) {
-            shape[VARIABLE_NODE + k] = VARIABLE;
-        }
-        return unify(typeOf[top], givenStack[givenDepth - 1]) && hasNoCycle();
+        return agrees(false);
     }
 
     public int typed() {
@@ -379,6 +364,17 @@ public final class TypedTerms {
             }
         }
         return count;
+    }
+
+    private boolean agrees(boolean givenVariablesAreHeld) {
+        int top = topTerm();
+        if (givenDepth == 0 || !infer(top)) {
+            return false;
+        }
+        for (int k = 0; k < TYPE_VARIABLES; k++) {
+            shape[VARIABLE_NODE + k] = givenVariablesAreHeld ? RIGID + k : VARIABLE;
+        }
+        return unify(typeOf[top], givenStack[givenDepth - 1]) && hasNoCycle();
     }
 
     private int countSymbols() {
@@ -574,7 +570,7 @@ public final class TypedTerms {
         walkFrom(entryMeaning[entry]);
         for (int i = 0; i < walkLength; i++) {
             int node = walk[i];
-            note[node] = open[node] ? newNode(shape[node], node, node) : node;
+            note[node] = open[node] ? newNode(shape[node], INT_NODE, INT_NODE) : node;
         }
         for (int i = 0; i < walkLength; i++) {
             int node = walk[i];
@@ -783,6 +779,8 @@ public final class TypedTerms {
         }
         return entry;
     }
+
+    // ---- the stack of what is still to be done ----
 
     private void push(int value) {
         if (workCount < MAX_WORK) {
