@@ -1,4 +1,4 @@
-/** Promises 11 to 13 and 16: the principal type, and how many terms have one. */
+/** Promises 11 and 12: the principal type, rule by rule. */
 public final class PrincipalTypeTest {
     private PrincipalTypeTest() {
     }
@@ -14,10 +14,7 @@ public final class PrincipalTypeTest {
         lists();
         arithmetic();
         selfPartsAnywhere();
-        symbolEdges();
-        longTypes();
-        variablesOfLongTypes();
-        typedTerms();
+        farTypesCompared();
         questionsChangeNothing();
         Check.end();
     }
@@ -87,6 +84,15 @@ public final class PrincipalTypeTest {
                 "2 10 3 3 10 0 3 10 1");
         has("(fun a (let b (fun c (app a c)) (pair (app b 1) (app b 2))))", "2 2 0 10 3 10 10");
         has("(fun a (let b (fun c (app a c)) (pair (app b 1) (app b true))))", "ILL");
+        // Any name around counts, not the innermost alone.
+        has("(fun a (fun c (let b a (pair (app b 1) (app b true)))))", "ILL");
+        has("(fun a (fun c (fun d (let b (pair a d) (pair (app (fst b) 1) (app (fst b) true))))))",
+                "ILL");
+        has("(own a c (let b a (pair (app b 1) (app b true))))", "ILL");
+        has("(fun d (split a c d 0 (let b a (snd (pair (app b 1) (app b true))))))", "ILL");
+        has("(fun a (let c 1 (let b a (pair (app b 1) (app b true)))))", "ILL");
+        has("(fun a (fun c (let b (fun d (pair c d)) (pair (app b 1) (app b true)))))",
+                "2 10 2 11 3 3 11 0 3 11 1");
         // A variable that is not open may be replaced later; the scheme follows.
         has("(fun a (let b (fun c a) (pair (app b 1) (add a 1))))", "2 0 3 0 0");
         has("(fun a (let b (pair a nil) (pair (add (fst b) 1) (cons 2 (snd b)))))",
@@ -165,95 +171,14 @@ public final class PrincipalTypeTest {
         has("(own a b (pair 1 (app a b)))", "ILL");
     }
 
-    private static void symbolEdges() {
-        TypedTerms x = Notation.of("(fun a 1)");
-        Check.due("size", x.typeSize(), 3);
-        Check.due("symbol 0", x.symbol(0), 2);
-        Check.due("symbol 1", x.symbol(1), 10);
-        Check.due("symbol 2", x.symbol(2), 0);
-        Check.due("symbol 3", x.symbol(3), TypedTerms.NONE);
-        Check.due("symbol -1", x.symbol(-1), TypedTerms.NONE);
-        Check.due("symbol far", x.symbol(Integer.MAX_VALUE), TypedTerms.NONE);
-        Check.due("symbol low", x.symbol(Integer.MIN_VALUE), TypedTerms.NONE);
-        x.leaf(2, 0);
-        Check.due("ill symbol 0", x.symbol(0), TypedTerms.ILL);
-        Check.due("ill symbol -1", x.symbol(-1), TypedTerms.ILL);
-        Check.due("ill variables", x.variables(), TypedTerms.ILL);
-        Check.due("ill size", x.typeSize(), TypedTerms.ILL);
-        Check.due("variables of nil", Notation.of("nil").variables(), 1);
-        Check.due("variables of 1", Notation.of("1").variables(), 0);
-        Check.due("variables of K", Notation.of("(fun a (fun b a))").variables(), 2);
-    }
-
-    private static void longTypes() {
-        TypedTerms full = Notation.of(Notation.doubling(Notation.doubled(6, "1")));
-        Check.due("127 symbols", full.typeSize(), 127);
-        exactly(199);
-        exactly(200);
-        exactly(201);
-        exactly(202);
-        TypedTerms x = Notation.of(Notation.doubledTenTimes("1"));
-        Check.due("2047 symbols", x.typeSize(), TypedTerms.LONG);
-        Check.due("symbol 0 of a long type", x.symbol(0), TypedTerms.LONG);
-        Check.due("symbol -1 of a long type", x.symbol(-1), TypedTerms.LONG);
-        Check.due("symbol 5000 of a long type", x.symbol(5000), TypedTerms.LONG);
-    }
-
-    /** 1 + 1 + 1 + 63 + 127 = 193 symbols of pairs, one more for a list, two for a function. */
-    private static void exactly(int size) {
-        boolean odd = size % 2 == 1;
-        String term = "(pair " + Notation.doubled(6, "1") + " (pair " + Notation.doubled(5, "1") + " "
-                + (odd ? "1" : "(cons 1 nil)") + "))";
-        for (int i = odd ? 193 : 194; i < size; i += 2) {
-            term = "(fun b " + term + ")";
-        }
-        TypedTerms x = Notation.of(Notation.doubling(term));
-        Check.due("size " + size, x.typeSize(), size <= 200 ? size : TypedTerms.LONG);
-        Check.due("last of " + size, x.symbol(size - 1), size <= 200 ? 0 : TypedTerms.LONG);
-        Check.due("beyond " + size, x.symbol(size), size <= 200 ? TypedTerms.NONE : TypedTerms.LONG);
-    }
-
-    private static void variablesOfLongTypes() {
-        TypedTerms x = Notation.of("(fun c " + Notation.doubledTenTimes("c") + ")");
-        Check.due("size of 2 to the 10", x.typeSize(), TypedTerms.LONG);
-        Check.due("its variables", x.variables(), 1);
-        TypedTerms y = Notation.of(Notation.doubledTenTimes("(pair nil nil)"));
-        Check.due("variables of a doubled pair", y.variables(), 2);
-        // Each use of a bound name has variables of its own: 5 lists, 5 times, 4 times.
-        TypedTerms z = Notation.of("(let a (pair nil (pair nil (pair nil (pair nil nil))))"
-                + " (let b (pair a (pair a (pair a (pair a a)))) (pair b (pair b (pair b b)))))");
-        Check.due("size with 100 variables", z.typeSize(), TypedTerms.LONG);
-        Check.due("100 variables", z.variables(), 100);
-        // Too many symbols for a call to visit each.
-        TypedTerms far = Notation.of(Notation.doubling("(let e (fun b " + Notation.doubled(5, "b") + ")"
-                + " (let f (fun b (app e (app e (app e b)))) (fun c (app f (app f (app f c))))))"));
-        Check.due("size of 2 to the 45", far.typeSize(), TypedTerms.LONG);
-        Check.due("variables of 2 to the 45", far.variables(), 1);
-        Notation.type(far, "(-> v0 v1)");
-        Check.due("fits 2 to the 45", far.fits(), false);
-        Check.due("meets 2 to the 45", far.meets(), true);
-        Check.due("steps of it", far.steps(), 4);
-    }
-
-    private static void typedTerms() {
-        TypedTerms x = new TypedTerms();
-        Check.due("typed of none", x.typed(), 0);
-        x.leaf(0, 1);
-        Check.due("typed of one", x.typed(), 1);
-        x.leaf(2, 0);
-        Check.due("typed with a name", x.typed(), 1);
-        Notation.term(x, "(fun a a)");
-        Check.due("typed of three", x.typed(), 2);
-        Notation.term(x, "(fun a (app a a))");
-        Check.due("typed of four", x.typed(), 2);
-        x.drop();
-        x.drop();
-        Check.due("after two drops", x.typed(), 1);
-        x.clear();
-        Check.due("after clear", x.typed(), 0);
-        Notation.term(x, Notation.doubledTenTimes("1"));
-        Notation.term(x, "(app (own a b (app a b)) 1)");
-        Check.due("a long one and a tired one count", x.typed(), 2);
+    /** Two types with millions of symbols each, made apart, that differ in the last one. */
+    private static void farTypesCompared() {
+        String term = Notation.doubling("(let e (fun b " + Notation.doubled(5, "b") + ")"
+                + " (let g (fun c (pair (app e (app e (app e (app e 1)))) c)) (if true X Y)))");
+        TypedTerms same = Notation.of(term.replace("X", "(app g 1)").replace("Y", "(app g 2)"));
+        Check.due("the same far types", same.typeSize(), TypedTerms.LONG);
+        TypedTerms other = Notation.of(term.replace("X", "(app g 1)").replace("Y", "(app g true)"));
+        Check.due("other far types", other.typeSize(), TypedTerms.ILL);
     }
 
     private static void questionsChangeNothing() {

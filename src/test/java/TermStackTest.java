@@ -1,290 +1,210 @@
-/** Promises 1 to 8: a new object, and the stack of terms. */
+/** Promises 1, 6, 7 and 8: a new object, drop, clear and depth. */
 public final class TermStackTest {
-    private static final int FAR = Integer.MAX_VALUE;
-    private static final int LOW = Integer.MIN_VALUE;
-
     private TermStackTest() {
     }
 
     public static void main(String[] args) {
+        constants();
         newObject();
-        leafRanges();
-        leafLimits();
-        oneRanges();
-        oneMakes();
-        twoRanges();
-        twoMakes();
-        bindLimit();
-        threeRanges();
-        threeMakes();
-        fullBeforeTooFew();
-        dropAndClear();
-        refusedCallsCountNothing();
+        objectsAreApart();
+        dropTakesTheTop();
+        dropOfNone();
+        dropGivesNoRoom();
+        clearEmpties();
+        clearForgetsTheMade();
+        clearForgetsTheOldTerms();
+        clearLeavesTheTypes();
+        depths();
         Check.end();
     }
 
+    private static void constants() {
+        Check.sentence("the constants");
+        Check.due("BAD_ARG", TypedTerms.BAD_ARG, -1);
+        Check.due("FULL", TypedTerms.FULL, -2);
+        Check.due("TOO_FEW", TypedTerms.TOO_FEW, -3);
+        Check.due("NONE", TypedTerms.NONE, -4);
+        Check.due("ILL", TypedTerms.ILL, -5);
+        Check.due("LONG", TypedTerms.LONG, -6);
+        Check.due("TIRED", TypedTerms.TIRED, -7);
+    }
+
     private static void newObject() {
+        Check.sentence("a new object: both stacks are empty");
+        nothingHeld("new", new TypedTerms());
+        Check.due("new drop", new TypedTerms().drop(), TypedTerms.TOO_FEW);
+        Check.due("new untype", new TypedTerms().untype(), 0);
+        for (int kind = 0; kind <= 3; kind++) {
+            Check.due("new one " + kind, new TypedTerms().one(kind, 0), TypedTerms.TOO_FEW);
+        }
+        for (int kind = 0; kind <= 8; kind++) {
+            Check.due("new two " + kind, new TypedTerms().two(kind, 0), TypedTerms.TOO_FEW);
+        }
+        for (int kind = 0; kind <= 1; kind++) {
+            Check.due("new three " + kind, new TypedTerms().three(kind, 1), TypedTerms.TOO_FEW);
+        }
+        for (int kind = 3; kind <= 5; kind++) {
+            Check.due("new type " + kind, new TypedTerms().type(kind, 0), TypedTerms.TOO_FEW);
+        }
+        Check.due("new room", Made.room(new TypedTerms()), 40);
+        Check.due("new room for binds", Made.roomForBinds(new TypedTerms()), 3);
+    }
+
+    private static void nothingHeld(String state, TypedTerms x) {
+        Check.due(state + " depth", x.depth(), 0);
+        Check.due(state + " typed", x.typed(), 0);
+        Check.due(state + " typeSize", x.typeSize(), TypedTerms.ILL);
+        Check.due(state + " symbol", x.symbol(0), TypedTerms.ILL);
+        Check.due(state + " variables", x.variables(), TypedTerms.ILL);
+        Check.due(state + " fits", x.fits(), false);
+        Check.due(state + " meets", x.meets(), false);
+        Check.due(state + " items", x.items(), TypedTerms.ILL);
+        Check.due(state + " kind", x.kind(0), TypedTerms.ILL);
+        Check.due(state + " number", x.number(0), 0);
+        Check.due(state + " steps", x.steps(), TypedTerms.ILL);
+    }
+
+    private static void objectsAreApart() {
+        Check.sentence("a new object: its stacks are its own");
         TypedTerms x = new TypedTerms();
-        Check.due("new depth", x.depth(), 0);
-        Check.due("new typed", x.typed(), 0);
-        Check.due("new drop", x.drop(), TypedTerms.TOO_FEW);
-        Check.due("new untype", x.untype(), 0);
-        Check.due("new typeSize", x.typeSize(), TypedTerms.ILL);
-        Check.due("new steps", x.steps(), TypedTerms.ILL);
-        TypedTerms other = new TypedTerms();
+        TypedTerms y = new TypedTerms();
         x.leaf(0, 1);
         x.type(0, 0);
-        Check.due("another object's depth", other.depth(), 0);
-        Check.due("another object's untype", other.untype(), 0);
-        Check.due("constants", "" + TypedTerms.BAD_ARG + TypedTerms.FULL + TypedTerms.TOO_FEW
-                + TypedTerms.NONE + TypedTerms.ILL + TypedTerms.LONG + TypedTerms.TIRED,
-                "-1-2-3-4-5-6-7");
+        nothingHeld("another object's", y);
+        Check.due("another object's untype", y.untype(), 0);
+        y.clear();
+        Check.due("depth after another's clear", x.depth(), 1);
+        Check.due("fits after another's untype", x.fits(), true);
     }
 
-    private static void leafRanges() {
-        int[][] bad = {{-1, 0}, {4, 0}, {FAR, 0}, {LOW, 0}, {0, 100}, {0, -100}, {0, FAR}, {0, LOW},
-            {1, -1}, {1, 2}, {1, LOW}, {2, -1}, {2, 8}, {2, FAR}};
+    private static void dropTakesTheTop() {
+        Check.sentence("drop: takes the top off the stack; otherwise the number on the stack");
+        TypedTerms x = Made.terms(8, 8);
+        for (int left = 7; left >= 0; left--) {
+            Check.due("the top", x.number(0), left + 1);
+            Check.due("drop", x.drop(), left);
+            Check.due("depth", x.depth(), left);
+        }
+        TypedTerms y = Notation.of("(pair 1 2)");
+        Check.due("drop of a term with parts", y.drop(), 0);
+        nothingHeld("after it", y);
+    }
+
+    private static void dropOfNone() {
+        Check.sentence("drop: TOO_FEW if it is empty");
         TypedTerms x = new TypedTerms();
-        for (int[] b : bad) {
-            Check.due("leaf " + b[0] + " " + b[1], x.leaf(b[0], b[1]), TypedTerms.BAD_ARG);
-        }
-        Check.due("depth after bad leaves", x.depth(), 0);
-        int[][] good = {{0, -99}, {0, 99}, {1, 0}, {1, 1}, {2, 0}, {2, 7}, {3, FAR}, {3, LOW}};
-        for (int i = 0; i < good.length; i++) {
-            Check.due("leaf " + good[i][0] + " " + good[i][1], x.leaf(good[i][0], good[i][1]), i + 1);
-        }
-        Check.due("number 99", Notation.valueOf(Notation.of("99")), "0:99");
-        Check.due("number -99", Notation.valueOf(Notation.of("-99")), "0:-99");
-        Check.due("true", Notation.valueOf(Notation.of("true")), "1:1");
-        Check.due("false", Notation.valueOf(Notation.of("false")), "1:0");
-        Check.due("nil", Notation.valueOf(Notation.of("nil")), "4:0");
-    }
-
-    private static void leafLimits() {
-        TypedTerms x = new TypedTerms();
-        for (int i = 1; i <= 8; i++) {
-            Check.due("leaf " + i, x.leaf(0, i), i);
-        }
-        Check.due("ninth leaf", x.leaf(0, 9), TypedTerms.FULL);
-        Check.due("bad ninth leaf", x.leaf(0, 100), TypedTerms.BAD_ARG);
-        Check.due("depth 8", x.depth(), 8);
-        Check.due("top after a refused leaf", x.number(0), 8);
-        Check.due("one on a full stack", x.one(0, 0), 8);
-        Check.due("two on a full stack", x.two(1, 0), 7);
-        TypedTerms y = new TypedTerms();
-        make(y, 40);
-        Check.due("the 41st leaf", y.leaf(0, 1), TypedTerms.FULL);
-        Check.due("the 41st leaf, bad", y.leaf(5, 1), TypedTerms.BAD_ARG);
-    }
-
-    /** Makes leaves and drops them: made terms count although they are gone. */
-    private static void make(TypedTerms x, int terms) {
-        for (int i = 0; i < terms; i++) {
-            Check.due("leaf " + i + " of " + terms, x.leaf(3, 0), 1);
-            Check.due("its drop", x.drop(), 0);
-        }
-    }
-
-    private static void oneRanges() {
-        int[][] bad = {{-1, 0}, {4, 0}, {FAR, 0}, {LOW, 0}, {0, -1}, {0, 8}, {1, -1}, {1, 64},
-            {1, FAR}, {1, LOW}};
-        TypedTerms x = new TypedTerms();
-        for (int[] b : bad) {
-            Check.due("one " + b[0] + " " + b[1], x.one(b[0], b[1]), TypedTerms.BAD_ARG);
-        }
-        for (int kind = 0; kind < 4; kind++) {
-            Check.due("one without a top " + kind, x.one(kind, 0), TypedTerms.TOO_FEW);
-        }
+        Check.due("drop of a new object", x.drop(), TypedTerms.TOO_FEW);
+        Check.due("depth", x.depth(), 0);
         x.leaf(0, 1);
-        int[][] good = {{0, 0}, {0, 7}, {1, 0}, {1, 63}, {2, FAR}, {2, LOW}, {3, -1}};
-        for (int[] g : good) {
-            Check.due("one " + g[0] + " " + g[1], x.one(g[0], g[1]), 1);
-        }
-    }
-
-    private static void oneMakes() {
-        Check.due("fun h", Notation.typeOf(Notation.of("(fun h h)")), "2 10 10");
-        Check.due("fun a with h", Notation.typeOf(Notation.of("(fun a h)")), "ILL");
-        // k = 8 f + x: the first name is the function's, the second the argument's.
-        TypedTerms x = new TypedTerms();
-        Notation.term(x, "(app c (add d 1))");
-        Check.due("own c d", x.one(1, 8 * 2 + 3), 1);
-        Check.due("own c d has", Notation.typeOf(x), "2 0 10");
-        TypedTerms y = new TypedTerms();
-        Notation.term(y, "(app c (add d 1))");
-        Check.due("own d c", y.one(1, 8 * 3 + 2), 1);
-        Check.due("own d c has", Notation.typeOf(y), "ILL");
-        Check.due("first", Notation.valueOf(Notation.of("(fst (pair 1 2))")), "0:1");
-        Check.due("second", Notation.valueOf(Notation.of("(snd (pair 1 2))")), "0:2");
-        TypedTerms z = new TypedTerms();
-        z.leaf(0, 5);
-        z.leaf(0, 6);
-        Check.due("one takes the top alone", z.one(0, 0), 2);
-        z.drop();
-        Check.due("what was below", z.number(0), 5);
-    }
-
-    private static void twoRanges() {
-        int[][] bad = {{-1, 0}, {9, 0}, {FAR, 0}, {LOW, 0}, {8, -1}, {8, 8}, {8, FAR}, {8, LOW}};
-        TypedTerms x = new TypedTerms();
-        for (int[] b : bad) {
-            Check.due("two " + b[0] + " " + b[1], x.two(b[0], b[1]), TypedTerms.BAD_ARG);
-        }
-        for (int kind = 0; kind <= 8; kind++) {
-            Check.due("two on nothing " + kind, x.two(kind, 0), TypedTerms.TOO_FEW);
-        }
-        x.leaf(0, 1);
-        for (int kind = 0; kind <= 8; kind++) {
-            Check.due("two on one " + kind, x.two(kind, 7), TypedTerms.TOO_FEW);
-        }
-        for (int kind = 0; kind < 8; kind++) {
-            x.leaf(0, 1);
-            Check.due("two with a far k " + kind, x.two(kind, kind % 2 == 0 ? FAR : LOW), 1);
-        }
-        x.leaf(0, 1);
-        Check.due("bind 7", x.two(8, 7), 1);
-    }
-
-    private static void twoMakes() {
-        Check.due("apply", Notation.valueOf(Notation.of("(app (fun a (sub a 1)) 7)")), "0:6");
-        Check.due("pair", Notation.valueOf(Notation.of("(pair 7 true)")), "3:0 0:7 1:1");
-        Check.due("cons", Notation.valueOf(Notation.of("(cons 7 nil)")), "4:1 0:7");
-        Check.due("add", Notation.valueOf(Notation.of("(add 7 2)")), "0:9");
-        Check.due("sub", Notation.valueOf(Notation.of("(sub 7 2)")), "0:5");
-        Check.due("mul", Notation.valueOf(Notation.of("(mul 7 2)")), "0:14");
-        Check.due("less", Notation.valueOf(Notation.of("(less 7 2)")), "1:0");
-        Check.due("equal", Notation.valueOf(Notation.of("(equal 7 2)")), "1:0");
-        Check.due("bind", Notation.valueOf(Notation.of("(let f 7 (sub f 2))")), "0:5");
-    }
-
-    private static void bindLimit() {
-        TypedTerms x = new TypedTerms();
-        x.leaf(0, 1);
-        for (int i = 1; i <= 3; i++) {
-            x.leaf(0, 2);
-            Check.due("bind " + i, x.two(8, 0), 1);
-        }
-        Check.due("bind 4 with too few", x.two(8, 0), TypedTerms.FULL);
-        Check.due("bind 4 with a bad k", x.two(8, 8), TypedTerms.BAD_ARG);
-        x.leaf(0, 3);
-        Check.due("bind 4", x.two(8, 0), TypedTerms.FULL);
-        Check.due("depth after it", x.depth(), 2);
-        Check.due("another two", x.two(3, 0), 1);
         x.drop();
+        Check.due("drop after the last", x.drop(), TypedTerms.TOO_FEW);
+        Check.due("and once more", x.drop(), TypedTerms.TOO_FEW);
         x.leaf(0, 1);
-        x.leaf(0, 1);
-        Check.due("dropped binds count", x.two(8, 0), TypedTerms.FULL);
         x.clear();
-        x.leaf(0, 1);
-        x.leaf(0, 1);
-        Check.due("bind after clear", x.two(8, 0), 1);
-        Check.due("a bind that is refused", x.two(8, 0), TypedTerms.TOO_FEW);
-        Check.due("and another", x.two(8, 9), TypedTerms.BAD_ARG);
-        for (int i = 2; i <= 3; i++) {
-            x.leaf(0, 1);
-            Check.due("refused binds don't count " + i, x.two(8, 0), 1);
-        }
-    }
-
-    private static void threeRanges() {
-        TypedTerms x = new TypedTerms();
-        int[][] bad = {{-1, 0}, {2, 0}, {FAR, 1}, {LOW, 1}, {1, -1}, {1, 64}, {1, FAR}, {1, LOW},
-            {1, 0}, {1, 9}, {1, 18}, {1, 27}, {1, 36}, {1, 45}, {1, 54}, {1, 63}};
-        for (int[] b : bad) {
-            Check.due("three " + b[0] + " " + b[1], x.three(b[0], b[1]), TypedTerms.BAD_ARG);
-        }
-        for (int held = 0; held < 3; held++) {
-            Check.due("choose of " + held, x.three(0, FAR), TypedTerms.TOO_FEW);
-            Check.due("split of " + held, x.three(1, 1), TypedTerms.TOO_FEW);
-            x.leaf(0, 1);
-        }
-        Check.due("choose with a far k", x.three(0, LOW), 1);
-        x.leaf(0, 1);
-        x.leaf(0, 1);
-        Check.due("split 0 1", x.three(1, 1), 1);
-        x.leaf(0, 1);
-        x.leaf(0, 1);
-        Check.due("split 7 6", x.three(1, 62), 1);
-    }
-
-    private static void threeMakes() {
-        Check.due("choose true", Notation.valueOf(Notation.of("(if true 1 2)")), "0:1");
-        Check.due("choose false", Notation.valueOf(Notation.of("(if false 1 2)")), "0:2");
-        // k = 8 h + t: the first name is the element's, the second the list's.
-        TypedTerms x = new TypedTerms();
-        Notation.term(x, "(cons 4 (cons 5 nil))");
-        Notation.term(x, "(pair 0 nil)");
-        Notation.term(x, "(pair c f)");
-        Check.due("split c f", x.three(1, 8 * 2 + 5), 1);
-        Check.due("split c f is", Notation.valueOf(x), "3:0 0:4 4:1 0:5");
-        TypedTerms y = new TypedTerms();
-        y.leaf(0, 9);
-        Notation.term(y, "(split a b nil 3 a)");
-        Check.due("split takes three", y.depth(), 2);
-        Check.due("split of empty", Notation.valueOf(y), "0:3");
-    }
-
-    private static void fullBeforeTooFew() {
-        TypedTerms x = new TypedTerms();
-        make(x, 40);
-        Check.due("one at 40", x.one(0, 0), TypedTerms.FULL);
-        Check.due("two at 40", x.two(0, 0), TypedTerms.FULL);
-        Check.due("bind at 40", x.two(8, 0), TypedTerms.FULL);
-        Check.due("three at 40", x.three(0, 0), TypedTerms.FULL);
-        Check.due("bad one at 40", x.one(0, 8), TypedTerms.BAD_ARG);
-        Check.due("bad two at 40", x.two(9, 0), TypedTerms.BAD_ARG);
-        Check.due("bad three at 40", x.three(1, 0), TypedTerms.BAD_ARG);
-        TypedTerms y = new TypedTerms();
-        make(y, 36);
-        Notation.term(y, "(add 1 2)");
-        Check.due("the 40th term", y.one(0, 0), 1);
-        Check.due("the 41st by one", y.one(0, 0), TypedTerms.FULL);
-        Check.due("the top stays", Notation.typeOf(y), "2 10 0");
-        y.clear();
-        make(y, 38);
-        y.leaf(0, 1);
-        y.leaf(0, 2);
-        Check.due("the 41st by two", y.two(1, 0), TypedTerms.FULL);
-        Check.due("depth after it", y.depth(), 2);
-        y.clear();
-        make(y, 37);
-        y.leaf(1, 1);
-        y.leaf(0, 2);
-        y.leaf(0, 2);
-        Check.due("the 41st by three", y.three(0, 0), TypedTerms.FULL);
-        Check.due("depth after that", y.depth(), 3);
-    }
-
-    private static void dropAndClear() {
-        TypedTerms x = new TypedTerms();
-        x.leaf(0, 1);
-        x.leaf(0, 2);
-        Check.due("drop of two", x.drop(), 1);
-        Check.due("what is left", x.number(0), 1);
-        Check.due("depth", x.depth(), 1);
-        Check.due("drop of one", x.drop(), 0);
-        Check.due("drop of none", x.drop(), TypedTerms.TOO_FEW);
-        Check.due("depth of none", x.depth(), 0);
-        make(x, 38);
-        Check.due("no more after 40", x.leaf(0, 1), TypedTerms.FULL);
+        Check.due("drop after clear", x.drop(), TypedTerms.TOO_FEW);
         x.type(0, 0);
-        x.clear();
-        Check.due("depth after clear", x.depth(), 0);
-        Check.due("leaf after clear", x.leaf(0, 1), 1);
-        x.clear();
-        Check.due("clear takes all off", x.drop(), TypedTerms.TOO_FEW);
-        Check.due("clear leaves the types", x.untype(), 1);
+        Check.due("drop beside a type", x.drop(), TypedTerms.TOO_FEW);
+        Check.due("the type stays", x.untype(), 1);
+        Check.due("leaf after refused drops", x.leaf(0, 5), 1);
+        Check.due("its number", x.number(0), 5);
     }
 
-    private static void refusedCallsCountNothing() {
-        TypedTerms x = new TypedTerms();
-        for (int i = 0; i < 30; i++) {
-            x.leaf(0, 100);
-            x.one(0, 0);
-            x.two(0, 0);
-            x.three(0, 0);
+    private static void dropGivesNoRoom() {
+        Check.sentence("drop: dropped terms were made since the stack was last emptied by clear");
+        TypedTerms x = Made.terms(10, 4);
+        for (int i = 0; i < 6; i++) {
+            x.drop();
         }
-        make(x, 40);
-        Check.due("the 41st after refused ones", x.leaf(0, 0), TypedTerms.FULL);
+        Check.due("room after drops", Made.room(x), 30);
+        Check.due("depth", x.depth(), 0);
+    }
+
+    private static void clearEmpties() {
+        Check.sentence("clear: empties the stack of terms");
+        for (int held = 0; held <= 8; held++) {
+            TypedTerms x = Made.terms(held, held);
+            x.clear();
+            nothingHeld("cleared", x);
+            Check.due("drop", x.drop(), TypedTerms.TOO_FEW);
+            Check.due("leaf", x.leaf(0, 3), 1);
+            Check.due("its number", x.number(0), 3);
+        }
+    }
+
+    private static void clearForgetsTheMade() {
+        Check.sentence("clear: no term counts as made");
+        TypedTerms x = Made.terms(40, 8);
+        x.clear();
+        Check.due("room", Made.room(x), 40);
+        x.clear();
+        x.clear();
+        Check.due("room after two clears", Made.room(x), 40);
+        TypedTerms y = Made.binds(3, 1);
+        y.clear();
+        Check.due("room for binds", Made.roomForBinds(y), 3);
+        TypedTerms z = Made.binds(3, 0);
+        z.clear();
+        // The leaves take the places that the binds had.
+        Made.hold(z, 8);
+        Check.due("bind among old places", z.two(8, 0), 7);
+    }
+
+    /** The places of the old terms are used again; what they were must not show. */
+    private static void clearForgetsTheOldTerms() {
+        Check.sentence("clear: the terms that were made before are gone");
+        String[] before = {"(let a 1 a)", "(let a nil (cons 1 a))", "(fun a (fun b b))",
+            "(split a b (cons 1 nil) 0 a)", "(fun a (app a a))", "(app (own a b (app a b)) 1)"};
+        String[][] after = {{"(fun b (pair 5 b))", "2 10 3 0 10", "2:0"},
+            {"(let b 5 (pair b nil))", "3 0 4 10", "3:0 0:5 4:0"}, {"a", "ILL", "ILL"},
+            {"(app (fun b (pair b true)) 6)", "3 0 1", "3:0 0:6 1:1"}, {"nil", "4 10", "4:0"}};
+        for (String old : before) {
+            for (String[] term : after) {
+                TypedTerms x = Notation.of(old);
+                x.typeSize();
+                x.items();
+                x.clear();
+                Notation.term(x, term[0]);
+                Check.due(term[0] + " after " + old + " has", Notation.typeOf(x), term[1]);
+                Check.due(term[0] + " after " + old + " is", Notation.valueOf(x), term[2]);
+            }
+        }
+    }
+
+    private static void clearLeavesTheTypes() {
+        Check.sentence("clear: the stack of types is another one");
+        TypedTerms x = Made.types(8, 8);
+        x.clear();
+        Check.due("a ninth type", x.type(0, 0), TypedTerms.FULL);
+        x.leaf(0, 1);
+        Check.due("fits", x.fits(), true);
+        Check.due("untype", x.untype(), 8);
+        TypedTerms y = Made.types(40, 1);
+        y.clear();
+        Check.due("a 41st type", y.type(5, 0), TypedTerms.FULL);
+    }
+
+    private static void depths() {
+        Check.sentence("depth: the number on the stack of terms");
+        TypedTerms x = new TypedTerms();
+        for (int held = 0; held <= 8; held++) {
+            Check.due("depth", x.depth(), held);
+            Check.due("depth again", x.depth(), held);
+            x.leaf(0, held);
+        }
+        Check.due("after a ninth leaf", x.depth(), 8);
+        x.one(0, 0);
+        Check.due("after one", x.depth(), 8);
+        x.two(1, 0);
+        Check.due("after two", x.depth(), 7);
+        x.three(0, 0);
+        Check.due("after three", x.depth(), 5);
+        x.type(0, 0);
+        Check.due("after type", x.depth(), 5);
+        x.untype();
+        Check.due("after untype", x.depth(), 5);
+        x.drop();
+        Check.due("after drop", x.depth(), 4);
+        x.clear();
+        Check.due("after clear", x.depth(), 0);
     }
 }
