@@ -21,6 +21,7 @@ public final class BoundsTest {
         noStepsForParts();
         tiredEndsTheRun();
         fiveHundredAndTwelveCalls();
+        longestRuns();
         callsThatAskMuch();
         Check.end();
     }
@@ -313,6 +314,23 @@ public final class BoundsTest {
             calls++;
         }
         Check.due("the 512th call", x.steps(), 3);
+    }
+
+    /** 198 times a body of more than 30 terms, with three sums waiting for each of them. */
+    private static void longestRuns() {
+        Check.sentence("a step: what is worked out between the steps has no bound of its own");
+        String body = "(app f (sub a 1))";
+        for (int i = 0; i < 8; i++) {
+            body = "(add " + body + " 1)";
+        }
+        for (int i = 0; i < 3; i++) {
+            body = "(add 1 " + body + ")";
+        }
+        String run = "(app (own f a (if (less a 1) 0 " + body + ")) (add 99 X))";
+        is(run.replace("X", "99"), "0:" + 11 * 198, 200);
+        TypedTerms x = Notation.of("(pair " + run.replace("X", "99") + " 1)");
+        Check.due("with one step more", x.items(), TypedTerms.TIRED);
+        is("(pair " + run.replace("X", "98") + " 1)", "3:0 0:" + 11 * 197 + " 0:1", 200);
     }
 
     /** No call leaves anything behind that a later one could stumble over. */

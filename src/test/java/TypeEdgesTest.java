@@ -227,6 +227,20 @@ public final class TypeEdgesTest {
                 + " (let b (pair a (pair a (pair a (pair a a)))) (pair b (pair b (pair b b)))))");
         Check.due("size with 100 variables", many.typeSize(), TypedTerms.LONG);
         Check.due("100 variables", many.variables(), 100);
+        // As many as 39 terms can have: 5 times 5 times 5 times 5.
+        String five = "(pair X (pair X (pair X (pair X X))))";
+        TypedTerms most = Notation.of("(let a " + five.replace("X", "nil") + " (let b "
+                + five.replace('X', 'a') + " (let c " + five.replace('X', 'b') + " "
+                + five.replace('X', 'c') + ")))");
+        Check.due("625 variables", most.variables(), 625);
+        Check.due("typed with 625", most.typed(), 1);
+        Check.due("items of 625 lists", most.items(), TypedTerms.LONG);
+        Check.due("steps of 625 lists", most.steps(), 16);
+        Notation.type(most, "(* v0 v0)");
+        Check.due("meets with 625", most.meets(), false);
+        Notation.type(most, "(* v0 (* v0 (* v0 v1)))");
+        Check.due("meets with 625, parts alike", most.meets(), true);
+        Check.due("fits with 625", most.fits(), false);
     }
 
     private static void typedCounts() {
